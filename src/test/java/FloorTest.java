@@ -90,7 +90,9 @@ public final class FloorTest {
         Patterns.multiplex(x, "301").show();
         x.run(2);
         landings("[301]", x, 1, 2, 0, 0);
-        Check.due("of several the lowest number", x.highest(), 1);
+        Check.due("the highest", x.highest(), 1);
+        Patterns.multiplex(x, "999").show();
+        Check.due("of several the lowest number", x.highest(), 24);
     }
 
     private static void synchronous() {
