@@ -416,6 +416,18 @@ final class Model {
         return new int[] {now, made[0], made[1], onFloor.size(), shown.mode}[what];
     }
 
+    int countValid(int period, int balls) {
+        argument(period >= 1 && period <= 6 && balls >= 0 && balls <= 9);
+        return countsOfPeriod(period)[balls];
+    }
+
+    int cycle(int n, int k) {
+        argument(n >= 1 && n <= 4 && k >= 0);
+        List<Integer> cycles = cyclesOfLength(n);
+        present(k < cycles.size());
+        return cycles.get(k);
+    }
+
     static int[] countsOfPeriod(int period) {
         int[] counts = new int[10];
         int all = (int) Math.round(Math.pow(10, period));
