@@ -205,6 +205,8 @@ public final class BoundaryDraftTest {
             "valid() = true", "sync 4x 4", "valid() = false");
         Run.due("Promise 5: a ball lands in the hand whose throw is 0", "sync 0 4",
             "valid() = true", "sync 0 4x", "valid() = false");
+        Run.due("Promise 5: synchronous behind the end of six sites", "sync 0 0 2 0 4 0",
+            "valid() = true", "sync 0 0 4 0 2 0", "valid() = false", "clash() = 4");
         Run.due("Promise 5: synchronous behind the end of 16 sites", "sync" + " 8x".repeat(16),
             "valid() = true", "put(15, 8, false) = 8", "valid() = false");
     }
@@ -282,6 +284,8 @@ public final class BoundaryDraftTest {
             "balls() = 9", "multiplex 999", "balls() = 27", "sync 8x 8x", "balls() = 8");
         Run.due("Promise 7: the sum of all heights divided by p", "multiplex 31 0 41 0",
             "balls()" + STATE, "multiplex 22 0", "balls() = 2", "sync 4x 2x", "balls() = 3");
+        Run.due("Promise 7: of three throws the last, and then the next site", "multiplex 222 2",
+            "balls() = 4", "multiplex 2 222", "balls() = 4");
     }
 
     private static void promise11Height() {

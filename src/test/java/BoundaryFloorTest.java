@@ -43,6 +43,8 @@ public final class BoundaryFloorTest {
             "landings = 0 1 2 3 4 5 6 7 8", "ball(9)" + INDEX);
         Run.due("Promise 19: the most balls, mode 1", "multiplex 999", "show() = 27",
             "ball(26) = 8", "ball(27)" + INDEX);
+        Run.due("Promise 19: a site of three throws beside one of one", "multiplex 222 2",
+            "show() = 4", "landings = 0 0 0 1", "run(1) = 3", "landings = 1 1 1 0");
         Run.due("Promise 19: the most balls, mode 2", "sync 8x 8x", "show() = 8",
             "landings = 0 0 2 2 4 4 6 6", "hands = 0 1 0 1 0 1 0 1");
         Run.due("Promise 19: at beat 0 again, with fewer balls", "plain 5", "show() = 5",
